@@ -1,0 +1,170 @@
+import java.util.Random;
+
+/** Long runs of calls, the same ones every time, on a PauseLog and on the model of the document. */
+public final class ModelTest {
+    private static final int RUNS = 1500;
+    private static final int STEPS = 160;
+
+    private final Random random;
+    private final int run;
+    private final PauseLog log = new PauseLog();
+    private final Model model = new Model();
+    private int time;
+    private int id;
+
+    private ModelTest(int run) {
+        this.run = run;
+        random = new Random(run);
+    }
+
+    public static void main(String[] args) {
+        for (int run = 0; run < RUNS; run++) {
+            ModelTest test = new ModelTest(run);
+            for (int step = 0; step < STEPS; step++) {
+                test.step();
+            }
+            test.compareAll();
+        }
+        Check.end();
+    }
+
+    private void compare(String what, Check.Call got, Check.Call due) {
+        Check.same("run " + run + ": " + what, Check.answerOf(got), Check.answerOf(due));
+    }
+
+    private void step() {
+        int choice = random.nextInt(100);
+        if (choice < 78) {
+            giveLine();
+        } else if (choice < 79) {
+            compare("finish", log::finish, model::finish);
+            time = random.nextInt(2000);
+            id = random.nextInt(3);
+        } else if (choice < 82) {
+            writeAnything();
+        } else {
+            ask();
+        }
+    }
+
+    // Most lines go on with what is open, so that events come to be; the rest go astray in some way.
+    private void giveLine() {
+        time = Math.min(99999999, time + (random.nextInt(200) == 0 ? random.nextInt(4000000) : random.nextInt(4)));
+        int pause = model.count(9);
+        int mark = model.count(10);
+        int shape = pause != PauseLog.NONE ? 1 + random.nextInt(3) : mark != PauseLog.NONE ? 5 + random.nextInt(2) : 4;
+        if (random.nextInt(4) == 0) {
+            shape = random.nextInt(7);
+        }
+        if (shape == 4 || shape >= 5 && random.nextInt(3) != 0) {
+            shape = random.nextInt(3) == 0 ? shape : 0;
+        }
+        int used = shape == 0 || shape == 4 ? ++id : shape >= 5 ? mark : pause;
+        if (random.nextInt(12) == 0) {
+            used = Math.max(0, used + random.nextInt(3) - 1);
+        }
+        int kindAndCause = shape > 1 ? 0 : random.nextInt(6) == 0 ? 10 * random.nextInt(3) + 100 * random.nextInt(3)
+            : 10 * (run % 3) + 100 * (run / 3 % 3);
+        int at = random.nextInt(15) == 0 ? Math.max(0, time - random.nextInt(4)) : time;
+        putWritten(shape + kindAndCause, Math.max(0, used) % 1000, at, shape == 1);
+        spoil();
+        compare("line", log::line, model::line);
+        compareCounts();
+    }
+
+    private void putWritten(int shape, int used, int at, boolean end) {
+        int a = size(end ? 6000 : 3000);
+        int b = size(end ? 6000 : 2000);
+        int c = random.nextInt(4) == 0 ? size(9000) : 1024 * (10 + random.nextInt(9990));
+        int took = random.nextInt(8) == 0 ? random.nextInt(9999999) : random.nextInt(2000) >> random.nextInt(11);
+        compare("write", () -> log.write(shape, used, at, a, b, c, took), () -> model.write(shape, used, at, a, b, c, took));
+    }
+
+    private int size(int most) {
+        return random.nextInt(5) == 0 ? 1024 * random.nextInt(9) : random.nextInt(most);
+    }
+
+    private void spoil() {
+        int way = random.nextInt(12);
+        if (way == 0) {
+            int n = random.nextInt(50);
+            compare("drop", () -> log.drop(n), () -> model.drop(n));
+        }
+        if (way <= 1 && random.nextInt(3) == 0) {
+            String some = "[0123456789.s]GC()PauseYngMixdFulAoctrEO->KMbk \u007f\u001f";
+            int more = 1 + random.nextInt(way == 0 ? 3 : 80);
+            for (int n = 0; n < more; n++) {
+                char c = some.charAt(random.nextInt(some.length()));
+                compare("type", () -> log.type(c), () -> model.type(c));
+            }
+        }
+    }
+
+    private void writeAnything() {
+        int shape = random.nextInt(4) == 0 ? random.nextInt(400) - 50 : random.nextInt(7);
+        int[] n = new int[6];
+        int[] edges = {-1, 0, 1, 999, 1000, 1024, 9999, 10000, 10240, 99999999, 100000000, 9999999, 10000000, 10238976,
+            10240000, Integer.MAX_VALUE, Integer.MIN_VALUE};
+        for (int k = 0; k < n.length; k++) {
+            n[k] = random.nextInt(3) == 0 ? edges[random.nextInt(edges.length)] : random.nextInt(900);
+        }
+        compare("write of anything", () -> log.write(shape, n[0], n[1], n[2], n[3], n[4], n[5]),
+            () -> model.write(shape, n[0], n[1], n[2], n[3], n[4], n[5]));
+        compare("count(6)", () -> log.count(6), () -> model.count(6));
+    }
+
+    private void ask() {
+        int i = random.nextInt(14) - 1;
+        int what = random.nextInt(16) - 1;
+        int k = random.nextInt(75) - 1;
+        int p = random.nextInt(103) - 1;
+        int l = random.nextInt(6) - 1;
+        compare("event", () -> log.event(i, what), () -> model.event(i, what));
+        compare("shown", () -> log.shown(i, l, k), () -> model.shown(i, l, k));
+        compare("diagnostic", () -> log.diagnostic(i, l), () -> model.diagnostic(i, l));
+        compare("percentile", () -> log.percentile(p), () -> model.percentile(p));
+        compare("throughput", log::throughput, model::throughput);
+        compare("rate", () -> log.rate(l), () -> model.rate(l));
+        compare("bucket", () -> log.bucket(what), () -> model.bucket(what));
+        compare("ofCause", () -> log.ofCause(l), () -> model.ofCause(l));
+    }
+
+    private void compareCounts() {
+        for (int n = -1; n <= 11; n++) {
+            int what = n;
+            compare("count(" + n + ")", () -> log.count(what), () -> model.count(what));
+        }
+    }
+
+    private void compareAll() {
+        compareCounts();
+        for (int n = -1; n <= 41; n++) {
+            int i = n;
+            for (int w = -1; w <= 14; w++) {
+                int what = w;
+                compare("event(" + i + ", " + w + ")", () -> log.event(i, what), () -> model.event(i, what));
+                compare("diagnostic(" + i + ", " + w + ")", () -> log.diagnostic(i, what), () -> model.diagnostic(i, what));
+            }
+            for (int l = 0; l < 5; l++) {
+                int line = l;
+                compare("shown(" + i + ", " + l + ")", () -> Check.shown(log, i, line), () -> shownByModel(i, line));
+            }
+            compare("bucket(" + i + ")", () -> log.bucket(i), () -> model.bucket(i));
+        }
+        for (int n = 0; n <= 101; n++) {
+            int p = n;
+            compare("percentile(" + n + ")", () -> log.percentile(p), () -> model.percentile(p));
+        }
+        compare("throughput", log::throughput, model::throughput);
+        compare("rate(0)", () -> log.rate(0), () -> model.rate(0));
+        compare("rate(1)", () -> log.rate(1), () -> model.rate(1));
+    }
+
+    private String shownByModel(int i, int l) {
+        StringBuilder text = new StringBuilder();
+        for (int k = 0; model.shown(i, l, k) != PauseLog.NONE; k++) {
+            text.append((char) model.shown(i, l, k));
+        }
+        return text.toString();
+    }
+}
