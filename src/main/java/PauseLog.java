@@ -15,11 +15,11 @@ public final class PauseLog {
     private static final int EVENT_FACTS = 14, BUCKETS = 24;
     private static final int TIME_DIGITS = 5, ID_DIGITS = 3, SIZE_DIGITS = 4, TOOK_DIGITS = 4;
     private static final int MOST_ID = 999, MOST_TIME = 99999999, MOST_SIZE_NUMBER = 9999, MOST_TOOK = 9999999;
+    private static final int MOST_ABORTED_TOOK = 2147483647;
     private static final int K_PER_M = 1024;
 
     private final Text pad;
     private final Text page;
-    private final Reader reader;
     private final Entry entry;
     private final Events events;
     private final Diagnostics diagnostics;
@@ -34,7 +34,6 @@ public final class PauseLog {
     public PauseLog() {
         pad = new Text();
         page = new Text();
-        reader = new Reader(pad);
         entry = new Entry();
         events = new Events();
         diagnostics = new Diagnostics();
@@ -73,6 +72,7 @@ public final class PauseLog {
 
     public int line() {
         lines++;
+        Reader reader = new Reader(pad);
         reader.readHead(entry);
         reader.readMessage(entry);
         boolean readable = reader.hasReadAll();
@@ -146,7 +146,8 @@ public final class PauseLog {
         if (sums.pauses == 0) {
             throw new IllegalStateException("no pauses");
         }
-        int least = Integer.MAX_VALUE;
+        // No pause took more, so this is the answer if none is found that took less.
+        int least = MOST_TOOK;
         for (int i = 0; i < events.size; i++) {
             Event each = events.get(i);
             if (each != null && each.isPause() && each.took < least
@@ -342,7 +343,10 @@ public final class PauseLog {
         }
 
         int get(int k) {
-            return k >= 0 && k < length && k < row.length ? row[k] : NONE;
+            if (k < 0 || k >= length || k >= row.length) {
+                return NONE;
+            }
+            return row[k];
         }
 
         void addWord(String word) {
@@ -475,8 +479,8 @@ public final class PauseLog {
     }
 
     /**
-     * Reads a text as a line. From the first character that can't stand where it does,
-     * nothing goes on any more, so that {@code at} is the fault then.
+     * Reads a text as a line, once. From the first character that can't stand where it does,
+     * it goes on no more, so that {@code at} is the fault then.
      */
     private static final class Reader {
         private final Text text;
@@ -488,8 +492,6 @@ public final class PauseLog {
         }
 
         void readHead(Entry entry) {
-            broken = false;
-            at = 0;
             pass("[");
             entry.time = decimal(TIME_DIGITS);
             pass("s]GC(");
@@ -718,7 +720,7 @@ public final class PauseLog {
             boolean aborted = end.shape == ABORT;
             endTime = end.time;
             kind = aborted ? ABORTED_KIND : MARK_KIND;
-            took = aborted ? (int) Math.min(microsecondsUntil(end), (long) Integer.MAX_VALUE) : end.took;
+            took = aborted ? (int) Math.min(microsecondsUntil(end), (long) MOST_ABORTED_TOOK) : end.took;
             lines++;
         }
 

@@ -85,6 +85,11 @@ public final class ReckonTest {
         Check.line(log, "[0.000s]GC(0) Old 100K->0K", 0);
         Check.line(log, "[0.001s]GC(0) Pause Young (Alloc) 100K->0K(100K) 0.000ms", 1);
         Check.same("rate below 0", log.rate(1), -75.0 / 11.0);
+        PauseLog fromNone = new PauseLog();
+        Check.line(fromNone, "[0.000s]GC(0) Pause Young (Alloc)", 0);
+        Check.line(fromNone, "[0.000s]GC(0) Old 0K->6K", 0);
+        Check.line(fromNone, "[0.002s]GC(0) Pause Young (Alloc) 6K->6K(6K) 0.000ms", 1);
+        Check.same("an OLD that was empty before", fromNone.rate(1), 3.0);
     }
 
     private static void wrongStates() {
