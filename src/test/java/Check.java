@@ -63,8 +63,10 @@ final class Check {
 
     static String shown(PauseLog log, int i, int l) {
         StringBuilder text = new StringBuilder();
-        for (int k = 0; log.shown(i, l, k) != PauseLog.NONE; k++) {
-            text.append((char) log.shown(i, l, k));
+        int c = log.shown(i, l, 0);
+        for (int k = 1; c != PauseLog.NONE; k++) {
+            text.append((char) c);
+            c = log.shown(i, l, k);
         }
         return text.toString();
     }

@@ -9,21 +9,22 @@ public final class EventTest {
         Check.end();
     }
 
+    // Only what write would write otherwise is typed, since typing takes so many of an object's calls.
     private static PauseLog sample() {
         PauseLog log = new PauseLog();
-        Check.line(log, "[0.500s]GC(1) Mark", 0);
-        Check.line(log, "[1.000s]GC(2) Pause Mixed (User)", 0);
+        Lines.mark(log, 1, 500, 0);
+        Lines.put(log, 210, 2, 1000, 0);
         Check.line(log, "[1.001s]GC(2) Old 2048K->1025K", 0);
         Check.line(log, "[1.002s]GC(2) Eden 7M->0M", 0);
         Check.line(log, "[1.003s]GC(2) Pause Mixed (User) 9216K->2000K(64M) 3.456ms", 1);
-        Check.line(log, "[1.010s]GC(3) Pause Full (Meta)", 0);
-        Check.line(log, "[1.020s]GC(3) Pause Full (Meta) 2000K->100K(9999M) 10.000ms", 1);
-        Check.line(log, "[2.000s]GC(1) Mark 1500.001ms", 1);
-        Check.line(log, "[2.000s]GC(4) Mark", 0);
-        Check.line(log, "[2.500s]GC(4) Mark Abort", 1);
-        Check.line(log, "[3.000s]GC(5) Pause Young (Alloc)", 0);
-        Check.line(log, "[3.000s]GC(5) Old 0K->1K", 0);
-        Check.line(log, "[3.000s]GC(5) Pause Young (Alloc) 0K->1K(1024K) 0.007ms", 1);
+        Lines.put(log, 120, 3, 1010, 0);
+        Lines.put(log, 121, 3, 1020, new int[] {2000, 100, 10238976, 10000}, 1);
+        Lines.marked(log, 1, 2000, 1500001, 1);
+        Lines.mark(log, 4, 2000, 0);
+        Lines.abort(log, 4, 2500, 1);
+        Lines.begin(log, 5, 3000, 0);
+        Lines.old(log, 5, 3000, 0, 1, 0);
+        Lines.end(log, 5, 3000, new int[] {0, 1, 1024, 7}, 1);
         return log;
     }
 
@@ -58,13 +59,12 @@ public final class EventTest {
     }
 
     private static void shown() {
-        PauseLog log = sample();
-        linesAre(log, 0, "[1.000s]GC(2) Pause Mixed (User)", "[1.000s]GC(2) Eden 7M->0K",
+        linesAre(sample(), 0, "[1.000s]GC(2) Pause Mixed (User)", "[1.000s]GC(2) Eden 7M->0K",
             "[1.000s]GC(2) Old 2M->1025K", "[1.003s]GC(2) Pause Mixed (User) 9M->2000K(64M) 3.456ms");
-        linesAre(log, 1, "[1.010s]GC(3) Pause Full (Meta)", "[1.020s]GC(3) Pause Full (Meta) 2000K->100K(9999M) 10.000ms");
-        linesAre(log, 2, "[0.500s]GC(1) Mark", "[2.000s]GC(1) Mark 1500.001ms");
-        linesAre(log, 3, "[2.000s]GC(4) Mark", "[2.500s]GC(4) Mark Abort");
-        linesAre(log, 4, "[3.000s]GC(5) Pause Young (Alloc)", "[3.000s]GC(5) Old 0K->1K",
+        linesAre(sample(), 1, "[1.010s]GC(3) Pause Full (Meta)", "[1.020s]GC(3) Pause Full (Meta) 2000K->100K(9999M) 10.000ms");
+        linesAre(sample(), 2, "[0.500s]GC(1) Mark", "[2.000s]GC(1) Mark 1500.001ms");
+        linesAre(sample(), 3, "[2.000s]GC(4) Mark", "[2.500s]GC(4) Mark Abort");
+        linesAre(sample(), 4, "[3.000s]GC(5) Pause Young (Alloc)", "[3.000s]GC(5) Old 0K->1K",
             "[3.000s]GC(5) Pause Young (Alloc) 0K->1K(1M) 0.007ms");
     }
 

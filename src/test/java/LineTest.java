@@ -245,21 +245,23 @@ public final class LineTest {
     }
 
     private static void diagnosticsKept() {
-        PauseLog log = new PauseLog();
-        for (int n = 1; n <= 30; n++) {
-            Check.line(log, "[0.000s]GC(".substring(0, n % 10), -PauseLog.SYNTAX);
-            Check.same("diagnostics", log.count(2), n);
-            for (int k = 0; k < Math.min(n, 12); k++) {
-                diagnosticIs(log, k, PauseLog.SYNTAX, n - k, (n - k) % 10);
+        for (int made = 1; made <= 30; made++) {
+            PauseLog log = new PauseLog();
+            for (int n = 1; n <= made; n++) {
+                Check.line(log, "[0.000s]GC(".substring(0, n % 10), -PauseLog.SYNTAX);
             }
-            int behind = Math.min(n, 12);
-            Check.noIndex("diagnostic behind the last", () -> log.diagnostic(behind, 0));
+            Check.same("diagnostics", log.count(2), made);
+            int kept = Math.min(made, 12);
+            for (int k = 0; k < kept; k++) {
+                diagnosticIs(log, k, PauseLog.SYNTAX, made - k, (made - k) % 10);
+            }
+            Check.noIndex("diagnostic behind the last", () -> log.diagnostic(kept, 0));
+            Check.noIndex("diagnostic -1", () -> log.diagnostic(-1, 0));
+            Check.noIndex("what -1", () -> log.diagnostic(0, -1));
+            Check.noIndex("what 3", () -> log.diagnostic(0, 3));
+            Check.noIndex("diagnostic of the greatest int", () -> log.diagnostic(Integer.MAX_VALUE, 0));
+            Check.noIndex("diagnostic of the least int", () -> log.diagnostic(Integer.MIN_VALUE, 0));
         }
-        Check.noIndex("diagnostic -1", () -> log.diagnostic(-1, 0));
-        Check.noIndex("what -1", () -> log.diagnostic(0, -1));
-        Check.noIndex("what 3", () -> log.diagnostic(0, 3));
-        Check.noIndex("diagnostic of the greatest int", () -> log.diagnostic(Integer.MAX_VALUE, 0));
-        Check.noIndex("diagnostic of the least int", () -> log.diagnostic(Integer.MIN_VALUE, 0));
     }
 
     private static void interleaved() {

@@ -117,7 +117,11 @@ final class Model {
         return Integer.parseInt(text.replace(".", ""));
     }
 
-    private static int faultOf(String text) {
+    static boolean isLine(String text) {
+        return LINE.matcher(text).matches();
+    }
+
+    static int faultOf(String text) {
         int fault = text.length();
         while (true) {
             Matcher matcher = LINE.matcher(text.substring(0, fault));
@@ -266,6 +270,14 @@ final class Model {
     }
 
     int shown(int i, int l, int k) {
+        String text = textOf(i, l);
+        if (k < 0) {
+            throw new IndexOutOfBoundsException();
+        }
+        return k < text.length() ? text.charAt(k) : PauseLog.NONE;
+    }
+
+    private String textOf(int i, int l) {
         Group e = at(events, i);
         Model writer = new Model();
         List<String> texts = new ArrayList<>();
@@ -278,11 +290,7 @@ final class Model {
                 texts.add(writer.pad);
             }
         }
-        String text = at(texts, l);
-        if (k < 0) {
-            throw new IndexOutOfBoundsException();
-        }
-        return k < text.length() ? text.charAt(k) : PauseLog.NONE;
+        return at(texts, l);
     }
 
     int diagnostic(int k, int what) {

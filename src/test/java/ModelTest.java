@@ -1,14 +1,22 @@
+import java.util.ArrayList;
+import java.util.List;
 import java.util.Random;
+import java.util.function.Function;
 
 /** Long runs of calls, the same ones every time, on a PauseLog and on the model of the document. */
 public final class ModelTest {
     private static final int RUNS = 300;
     private static final int STEPS = 200;
+    private static final int MOST_CALLS = 512;
+    // What is left of an object's calls is enough for a step's changes, and for questions then.
+    private static final int MOST_CHANGES = 400;
 
     private final Random random;
     private final int run;
-    private final PauseLog log = new PauseLog();
     private final Model model = new Model();
+    private final List<Function<PauseLog, Object>> changes = new ArrayList<>();
+    private PauseLog log = new PauseLog();
+    private int calls;
     private int time;
     private int id;
 
@@ -20,7 +28,7 @@ public final class ModelTest {
     public static void main(String[] args) {
         for (int run = 0; run < RUNS; run++) {
             ModelTest test = new ModelTest(run);
-            for (int step = 0; step < STEPS; step++) {
+            for (int step = 0; step < STEPS && test.changes.size() < MOST_CHANGES; step++) {
                 test.step();
             }
             test.compareAll();
@@ -28,8 +36,26 @@ public final class ModelTest {
         Check.end();
     }
 
-    private void compare(String what, Check.Call got, Check.Call due) {
-        Check.same("run " + run + ": " + what, Check.answerOf(got), Check.answerOf(due));
+    private void change(String what, Function<PauseLog, Object> got, Check.Call due) {
+        compare(what, got, due);
+        changes.add(got);
+    }
+
+    private void compare(String what, Function<PauseLog, Object> got, Check.Call due) {
+        if (calls == MOST_CALLS) {
+            renew();
+        }
+        calls++;
+        Check.same("run " + run + ": " + what, Check.answerOf(() -> got.apply(log)), Check.answerOf(due));
+    }
+
+    /** An object that has all its calls behind it is free to answer anything: a new one is brought to the same state. */
+    private void renew() {
+        log = new PauseLog();
+        for (Function<PauseLog, Object> each : changes) {
+            Check.answerOf(() -> each.apply(log));
+        }
+        calls = changes.size();
     }
 
     private void step() {
@@ -37,7 +63,7 @@ public final class ModelTest {
         if (choice < 78) {
             giveLine();
         } else if (choice < 79) {
-            compare("finish", log::finish, model::finish);
+            change("finish", PauseLog::finish, model::finish);
             time = random.nextInt(2000);
             id = random.nextInt(3);
         } else if (choice < 82) {
@@ -68,7 +94,7 @@ public final class ModelTest {
         int at = random.nextInt(25) == 0 ? Math.max(0, time - random.nextInt(4)) : time;
         putWritten(shape + kindAndCause, Math.max(0, used) % 1000, at, shape == 1);
         spoil();
-        compare("line", log::line, model::line);
+        change("line", PauseLog::line, model::line);
         compareCounts();
     }
 
@@ -78,7 +104,7 @@ public final class ModelTest {
         int b = end && random.nextInt(8) > 0 ? 4000 + random.nextInt(3000) : size(random.nextBoolean() ? 2000 : 3);
         int c = random.nextInt(8) == 0 ? size(9000) : 1024 * (10 + random.nextInt(9990));
         int took = random.nextInt(20) == 0 ? random.nextInt(9999999) : random.nextInt(1200) >> random.nextInt(11);
-        compare("write", () -> log.write(shape, used, at, a, b, c, took), () -> model.write(shape, used, at, a, b, c, took));
+        change("write", x -> x.write(shape, used, at, a, b, c, took), () -> model.write(shape, used, at, a, b, c, took));
     }
 
     private int size(int most) {
@@ -89,14 +115,14 @@ public final class ModelTest {
         int way = random.nextInt(40);
         if (way == 0) {
             int n = random.nextInt(50);
-            compare("drop", () -> log.drop(n), () -> model.drop(n));
+            change("drop", x -> x.drop(n), () -> model.drop(n));
         }
         if (way <= 2 && random.nextInt(3) == 0) {
             String some = "[0123456789.s]GC()PauseYngMixdFulAoctrEO->KMbk \u007f\u001f";
             int more = 1 + random.nextInt(way == 0 ? 3 : 80);
             for (int n = 0; n < more; n++) {
                 char c = some.charAt(random.nextInt(some.length()));
-                compare("type", () -> log.type(c), () -> model.type(c));
+                change("type", x -> x.type(c), () -> model.type(c));
             }
         }
     }
@@ -109,9 +135,9 @@ public final class ModelTest {
         for (int k = 0; k < n.length; k++) {
             n[k] = random.nextInt(3) == 0 ? edges[random.nextInt(edges.length)] : random.nextInt(900);
         }
-        compare("write of anything", () -> log.write(shape, n[0], n[1], n[2], n[3], n[4], n[5]),
+        change("write of anything", x -> x.write(shape, n[0], n[1], n[2], n[3], n[4], n[5]),
             () -> model.write(shape, n[0], n[1], n[2], n[3], n[4], n[5]));
-        compare("count(6)", () -> log.count(6), () -> model.count(6));
+        compare("count(6)", x -> x.count(6), () -> model.count(6));
     }
 
     private void ask() {
@@ -120,20 +146,20 @@ public final class ModelTest {
         int k = random.nextInt(75) - 1;
         int p = random.nextInt(103) - 1;
         int l = random.nextInt(6) - 1;
-        compare("event", () -> log.event(i, what), () -> model.event(i, what));
-        compare("shown", () -> log.shown(i, l, k), () -> model.shown(i, l, k));
-        compare("diagnostic", () -> log.diagnostic(i, l), () -> model.diagnostic(i, l));
-        compare("percentile", () -> log.percentile(p), () -> model.percentile(p));
-        compare("throughput", log::throughput, model::throughput);
-        compare("rate", () -> log.rate(l), () -> model.rate(l));
-        compare("bucket", () -> log.bucket(what), () -> model.bucket(what));
-        compare("ofCause", () -> log.ofCause(l), () -> model.ofCause(l));
+        compare("event", x -> x.event(i, what), () -> model.event(i, what));
+        compare("shown", x -> x.shown(i, l, k), () -> model.shown(i, l, k));
+        compare("diagnostic", x -> x.diagnostic(i, l), () -> model.diagnostic(i, l));
+        compare("percentile", x -> x.percentile(p), () -> model.percentile(p));
+        compare("throughput", PauseLog::throughput, model::throughput);
+        compare("rate", x -> x.rate(l), () -> model.rate(l));
+        compare("bucket", x -> x.bucket(what), () -> model.bucket(what));
+        compare("ofCause", x -> x.ofCause(l), () -> model.ofCause(l));
     }
 
     private void compareCounts() {
         for (int n = -1; n <= 11; n++) {
             int what = n;
-            compare("count(" + n + ")", () -> log.count(what), () -> model.count(what));
+            compare("count(" + n + ")", x -> x.count(what), () -> model.count(what));
         }
     }
 
@@ -143,29 +169,30 @@ public final class ModelTest {
             int i = n;
             for (int w = -1; w <= 14; w++) {
                 int what = w;
-                compare("event(" + i + ", " + w + ")", () -> log.event(i, what), () -> model.event(i, what));
-                compare("diagnostic(" + i + ", " + w + ")", () -> log.diagnostic(i, what), () -> model.diagnostic(i, what));
+                compare("event(" + i + ", " + w + ")", x -> x.event(i, what), () -> model.event(i, what));
+                compare("diagnostic(" + i + ", " + w + ")", x -> x.diagnostic(i, what), () -> model.diagnostic(i, what));
             }
             for (int l = 0; l < 5; l++) {
-                int line = l;
-                compare("shown(" + i + ", " + l + ")", () -> Check.shown(log, i, line), () -> shownByModel(i, line));
+                compareShown(i, l);
             }
-            compare("bucket(" + i + ")", () -> log.bucket(i), () -> model.bucket(i));
+            compare("bucket(" + i + ")", x -> x.bucket(i), () -> model.bucket(i));
         }
         for (int n = 0; n <= 101; n++) {
             int p = n;
-            compare("percentile(" + n + ")", () -> log.percentile(p), () -> model.percentile(p));
+            compare("percentile(" + n + ")", x -> x.percentile(p), () -> model.percentile(p));
         }
-        compare("throughput", log::throughput, model::throughput);
-        compare("rate(0)", () -> log.rate(0), () -> model.rate(0));
-        compare("rate(1)", () -> log.rate(1), () -> model.rate(1));
+        compare("throughput", PauseLog::throughput, model::throughput);
+        compare("rate(0)", x -> x.rate(0), () -> model.rate(0));
+        compare("rate(1)", x -> x.rate(1), () -> model.rate(1));
     }
 
-    private String shownByModel(int i, int l) {
-        StringBuilder text = new StringBuilder();
-        for (int k = 0; model.shown(i, l, k) != PauseLog.NONE; k++) {
-            text.append((char) model.shown(i, l, k));
+    private void compareShown(int i, int l) {
+        Object due = null;
+        for (int n = 0; n == 0 || due instanceof Integer c && c != PauseLog.NONE; n++) {
+            int k = n;
+            Object answer = Check.answerOf(() -> model.shown(i, l, k));
+            compare("shown(" + i + ", " + l + ", " + k + ")", x -> x.shown(i, l, k), () -> answer);
+            due = answer;
         }
-        return text.toString();
     }
 }
