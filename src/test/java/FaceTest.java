@@ -29,6 +29,7 @@ public final class FaceTest {
     public static void main(String[] args) throws IllegalAccessException {
         methods();
         constants();
+        classesInside();
         Constructor<?>[] constructors = PauseLog.class.getDeclaredConstructors();
         Check.same("constructors", constructors.length, 1);
         Check.same("constructor", constructors[0].toString(), "public PauseLog()");
@@ -63,6 +64,15 @@ public final class FaceTest {
         }
         Check.same("constants", got, new TreeMap<>(Map.of("NONE", -1, "SYNTAX", 1, "BACK", 2, "STALE", 3, "BUSY", 4,
             "UNKNOWN", 5, "WRONG", 6, "FULL", 7, "TRUNCATED", 8)));
+    }
+
+    // LANGUAGE.md, rule 1: "the classes inside it, which are private or package-visible and static"
+    private static void classesInside() {
+        for (Class<?> inside : PauseLog.class.getDeclaredClasses()) {
+            int modifiers = inside.getModifiers();
+            Check.same(inside + " is hidden", Modifier.isPublic(modifiers) || Modifier.isProtected(modifiers), false);
+            Check.same(inside + " is static", Modifier.isStatic(modifiers), true);
+        }
     }
 
     private static boolean isPrivate(Member member) {
